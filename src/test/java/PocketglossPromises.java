@@ -545,6 +545,34 @@ public final class PocketglossPromises {
         costs(x, 300);
     }
 
+    /** Each question of the sentence, asked before any other and again when the sentence changes. */
+    private static void askedFirst() {
+        for (int question = 0; question < 6; question++) {
+            Pocketgloss x = new Pocketgloss();
+            phrase(x, 3, 1);
+            phrase(x, 4, 2, 1);
+            tell(x, 1, 3);
+            is("question " + question, ask(x, question), new int[] {1, 13, 13, 0, 1, 1}[question]);
+            tell(x, 2, 1, 1);
+            is("question " + question, ask(x, question), new int[] {3, 7, 7, 1, 3, 2}[question]);
+            x.takeOut(1);
+            is("question " + question, ask(x, question), new int[] {2, 16, 16, -1, 0, 1}[question]);
+            x.addRule(1, 1);
+            is("question " + question, ask(x, question), new int[] {3, 9, 9, 0, 1, 1}[question]);
+        }
+    }
+
+    private static int ask(Pocketgloss x, int question) {
+        switch (question) {
+            case 0: return x.standings();
+            case 1: return x.cost();
+            case 2: return x.costByAll();
+            case 3: return x.glossAt(0);
+            case 4: return x.placesAt(0);
+            default: return x.newEntries(0);
+        }
+    }
+
     /** Where the cheapest standing at the first place does not belong to the best cover. */
     private static void costByCover() {
         Pocketgloss x = new Pocketgloss();
@@ -913,6 +941,8 @@ public final class PocketglossPromises {
         cost();
         costByCover();
         manyCovers();
+        promise = "promises 13 to 18";
+        askedFirst();
         promise = "promise 16";
         glossAt();
         glossOfEquals();
