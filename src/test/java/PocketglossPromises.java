@@ -545,7 +545,7 @@ public final class PocketglossPromises {
         costs(x, 300);
     }
 
-    /** Each question of the sentence, asked before any other and again when the sentence changes. */
+    /** Each question of the sentence, asked before any other, and when something changed. */
     private static void askedFirst() {
         for (int question = 0; question < 6; question++) {
             Pocketgloss x = new Pocketgloss();
