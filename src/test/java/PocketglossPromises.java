@@ -1,123 +1,5 @@
-import java.util.NoSuchElementException;
-
 /** The promises of the document one by one: ordinary inputs, edges and wrong inputs. */
-public final class PocketglossPromises {
-    private static final int NONE = Pocketgloss.NONE;
-    private static final Class<?> INDEX = IndexOutOfBoundsException.class;
-    private static final Class<?> ARGUMENT = IllegalArgumentException.class;
-    private static final Class<?> STATE = IllegalStateException.class;
-    private static final Class<?> ELEMENT = NoSuchElementException.class;
-    private static final int[] OUTSIDE = {
-        Integer.MIN_VALUE, -1_000_000, -3, -2, 1_000_000, Integer.MAX_VALUE
-    };
-
-    private static int wrong = 0;
-    private static int checks = 0;
-    private static String promise = "";
-
-    private interface Call {
-        long answer();
-    }
-
-    private static void is(String call, long got, long want) {
-        checks++;
-        if (got != want) {
-            wrong++;
-            System.out.println(promise + ": " + call + " answered " + got + ", due is " + want);
-        }
-    }
-
-    private static void is(String call, boolean got, boolean want) {
-        is(call, got ? 1 : 0, want ? 1 : 0);
-    }
-
-    /** The class itself, not one below it: an ArrayIndexOutOfBoundsException is the machine's. */
-    private static void fails(String call, Class<?> want, Call made) {
-        checks++;
-        String got = "answered";
-        try {
-            got = "answered " + made.answer();
-        } catch (RuntimeException e) {
-            if (e.getClass() == want) {
-                return;
-            }
-            got = "threw " + e.getClass().getName();
-        }
-        wrong++;
-        System.out.println(promise + ": " + call + " " + got + ", due is " + want.getName());
-    }
-
-    /** A throwing call that must leave all that can be asked as it was. */
-    private static void failsIdly(Pocketgloss x, String call, Class<?> want, Call made) {
-        String before = look(x);
-        fails(call, want, made);
-        checks++;
-        if (!look(x).equals(before)) {
-            wrong++;
-            System.out.println(promise + ": " + call + " threw, but changed something");
-        }
-    }
-
-    /** All that can be asked of an object without changing it, but for its draft. */
-    private static String look(Pocketgloss x) {
-        StringBuilder all = new StringBuilder();
-        for (int word = 0; word < 100; word++) {
-            all.append(x.headwords(word)).append(' ');
-        }
-        all.append(x.entries()).append(' ').append(x.standings());
-        all.append(' ').append(x.cost()).append(' ').append(x.costByAll());
-        for (int place = 0; place < 6; place++) {
-            try {
-                all.append(' ').append(x.glossAt(place)).append('/').append(x.placesAt(place));
-            } catch (IndexOutOfBoundsException e) {
-                all.append(" none");
-            }
-        }
-        for (int reader = 0; reader < 3; reader++) {
-            all.append(' ').append(x.newEntries(reader)).append(' ').append(x.due(reader));
-            all.append(' ').append(x.nextDue(reader));
-            for (int entry = 0; entry < 8; entry++) {
-                try {
-                    all.append(x.knows(reader, entry) ? 'k' : '-');
-                } catch (NoSuchElementException e) {
-                    all.append('n');
-                }
-            }
-        }
-        return all.toString();
-    }
-
-    private static void tell(Pocketgloss x, int... words) {
-        x.clear();
-        for (int word : words) {
-            x.say(word);
-        }
-    }
-
-    private static int phrase(Pocketgloss x, int cost, int... parts) {
-        for (int part : parts) {
-            x.part(part);
-        }
-        return x.addPhrase(cost);
-    }
-
-    private static void glosses(Pocketgloss x, int... want) {
-        for (int place = 0; place < want.length; place++) {
-            is("glossAt(" + place + ")", x.glossAt(place), want[place]);
-        }
-    }
-
-    private static void places(Pocketgloss x, int... want) {
-        for (int place = 0; place < want.length; place++) {
-            is("placesAt(" + place + ")", x.placesAt(place), want[place]);
-        }
-    }
-
-    private static void costs(Pocketgloss x, int want) {
-        is("cost()", x.cost(), want);
-        is("costByAll()", x.costByAll(), want);
-    }
-
+public final class PocketglossPromises extends Checks {
     private static void newObject() {
         Pocketgloss x = new Pocketgloss();
         is("NONE", Pocketgloss.NONE, -1);
@@ -910,61 +792,58 @@ public final class PocketglossPromises {
     }
 
     public static void main(String[] args) {
-        promise = "promise 1";
+        about("promise 1");
         newObject();
-        promise = "promise 2";
+        about("promise 2");
         addRule();
-        promise = "promise 3";
+        about("promise 3");
         headwords();
-        promise = "promise 4";
+        about("promise 4");
         isForm();
-        promise = "promise 5";
+        about("promise 5");
         part();
-        promise = "promise 6";
+        about("promise 6");
         addPhrase();
-        promise = "promise 7";
+        about("promise 7");
         addSplit();
-        promise = "promise 8";
+        about("promise 8");
         takeOut();
-        promise = "promise 9";
+        about("promise 9");
         entries();
-        promise = "promise 10";
+        about("promise 10");
         say();
-        promise = "promise 11";
+        about("promise 11");
         clear();
-        promise = "promise 12";
+        about("promise 12");
         setBare();
-        promise = "promise 13";
+        about("promise 13");
         standings();
         standingsByForms();
-        promise = "promises 14 and 15";
+        about("promises 14 and 15");
         cost();
         costByCover();
         manyCovers();
-        promise = "promises 13 to 18";
+        about("promises 13 to 18");
         askedFirst();
-        promise = "promise 16";
+        about("promise 16");
         glossAt();
         glossOfEquals();
-        promise = "promise 17";
+        about("promise 17");
         placesAt();
-        promise = "promise 18";
+        about("promise 18");
         newEntries();
-        promise = "promise 19";
+        about("promise 19");
         learn();
-        promise = "promise 20";
+        about("promise 20");
         review();
-        promise = "promise 21";
+        about("promise 21");
         knows();
-        promise = "promise 22";
+        about("promise 22");
         due();
-        promise = "promise 23";
+        about("promise 23");
         nextDue();
-        promise = "promise 24";
+        about("promise 24");
         pass();
-        System.out.println(checks + " checks of the promises, " + wrong + " wrong");
-        if (wrong != 0) {
-            System.exit(1);
-        }
+        end("of the promises");
     }
 }
