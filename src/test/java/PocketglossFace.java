@@ -1,11 +1,18 @@
+import java.io.IOException;
 import java.lang.reflect.Constructor;
 import java.lang.reflect.Field;
 import java.lang.reflect.Method;
 import java.lang.reflect.Modifier;
+import java.nio.file.Files;
+import java.nio.file.Path;
+import java.util.ArrayList;
+import java.util.List;
 import java.util.Set;
 import java.util.TreeSet;
+import java.util.regex.Matcher;
+import java.util.regex.Pattern;
 
-/** The class has the document's face and no other member that can be seen. */
+/** The class has the document's face, under its headings, and no other member to be seen. */
 public final class PocketglossFace {
     private static final String STATE = "java.lang.IllegalStateException";
     private static final String ARGUMENT = "java.lang.IllegalArgumentException";
@@ -124,10 +131,33 @@ public final class PocketglossFace {
         }
     }
 
-    public static void main(String[] args) throws IllegalAccessException {
+    /** "Ahead of the calls .. the interface says: ---- ..": promises 1 to 24 in their order. */
+    private static void checkHeadings() throws IOException {
+        Pattern line = Pattern.compile("    (?:// (----.*)|public (?:int |boolean )?(\\w+)\\(.*)");
+        List<String> seen = new ArrayList<>();
+        for (String text : Files.readAllLines(Path.of("src/main/java/Pocketgloss.java"))) {
+            Matcher found = line.matcher(text);
+            if (found.matches()) {
+                seen.add(found.group(1) != null ? found.group(1) : found.group(2));
+            }
+        }
+        List<String> due = List.of(
+                "Pocketgloss",
+                "---- rules and forms", "addRule", "headwords", "isForm",
+                "---- entries", "part", "addPhrase", "addSplit", "takeOut", "entries",
+                "---- the sentence and its covers", "say", "clear", "setBare", "standings", "cost",
+                "costByAll", "glossAt", "placesAt",
+                "---- readers, cards and days", "newEntries", "learn", "review", "knows", "due",
+                "nextDue", "pass");
+        List<String> first = seen.subList(0, Math.min(due.size(), seen.size()));
+        holds("the calls are in order under their headings, but " + seen, first.equals(due));
+    }
+
+    public static void main(String[] args) throws IllegalAccessException, IOException {
         checkClass(Pocketgloss.class);
         checkMethods(Pocketgloss.class);
         checkFields(Pocketgloss.class);
+        checkHeadings();
         System.out.println("the face of the class, " + wrong + " wrong");
         if (wrong != 0) {
             System.exit(1);
