@@ -123,7 +123,8 @@ public final class PocketglossReadme extends Checks {
         try (Stream<Path> tests = Files.list(Path.of("src", "test", "java"))) {
             for (Path test : tests.toList()) {
                 String name = test.getFileName().toString().replace(".java", "");
-                boolean told = page.stream().anyMatch(line -> line.startsWith("| `" + name + "` |"));
+                String row = "| `" + name + "` |";
+                boolean told = page.stream().anyMatch(line -> line.startsWith(row));
                 is("whether it names " + name, told, true);
             }
         }
